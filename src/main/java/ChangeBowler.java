@@ -118,7 +118,7 @@ public final class ChangeBowler {
         int attack = book.attackAhead(o, numbers);
         if (order.ended(o, w, attack)) return NOT;
         odds.lay(numbers.field);
-        if (byBest) best.seek(order.sorts, attack, o, w);
+        if (byBest) best.seek(attack, o, w);
         return captain.putOn(rule, o, w, attack);
     }
 
@@ -145,7 +145,7 @@ public final class ChangeBowler {
         int attack = book.attackAhead(o, numbers);
         if (order.ended(o, w, attack)) return what == 0 ? 0 : NOT;
         odds.lay(numbers.field);
-        best.seek(order.sorts, attack, o, w);
+        best.seek(attack, o, w);
         return what == 0 ? best.valueAt(0, w) : best.whomAt(0, w);
     }
 
@@ -376,28 +376,28 @@ public final class ChangeBowler {
     /** A RULE of KIND BEST looks its BOWLERS up in what was sought from the beginning. */
     private void makeReady(int rule) {
         odds.lay(numbers.field);
-        if (rules.kindOf(rule) == BEST_KIND) best.seek(order.sorts, numbers.freshAttack(), 0, 0);
+        if (rules.kindOf(rule) == BEST_KIND) best.seek(numbers.freshAttack(), 0, 0);
     }
 
     private int bestOf(int attack, int field) {
         odds.lay(field);
-        best.seek(order.sorts, attack, 0, 0);
+        best.seek(attack, 0, 0);
         return best.valueAt(0, 0);
     }
 
-    /** Orders come as digits come, so that the first of like ones is met first. */
+    /** The front turns fastest: what was judged for those behind it stands, and only the first ones are judged anew. */
     private int turnOrder(int what) {
-        int attack = numbers.freshAttack(), digits = 0, most = -1;
+        int attack = numbers.freshAttack(), digits = 0, most = -1, changed = order.size - 1;
         odds.lay(numbers.field);
-        order.sortInto(turned);
-        for (int n = 0; n < 120; n++) {
-            best.seek(turned, attack, 0, 0);
-            int v = best.valueAt(0, 0);
-            if (v > most) {
+        order.sortDown(turned);
+        for (int n = 0; n < 120 && changed >= 0; n++) {
+            best.seekFor(turned, attack, 0, 0, changed);
+            int v = best.valueAt(0, 0), shown = Order.digits(turned, order.size);
+            if (v > most || v == most && shown < digits) {
                 most = v;
-                digits = Order.digits(turned, order.size);
+                digits = shown;
             }
-            if (!Order.turnOn(turned, order.size)) break;
+            changed = Order.turnOn(turned, order.size);
         }
         return what == 0 ? digits : most;
     }
@@ -406,12 +406,12 @@ public final class ChangeBowler {
         int w = book.outs(i), attack = book.attackAhead(i, numbers), who = book.bowlerAt(i);
         if (order.ended(i, w, attack)) return 0;
         odds.lay(numbers.field);
-        best.seek(order.sorts, attack, i, w);
+        best.seek(attack, i, w);
         int least = best.valueAt(0, w);
         int ifOut = 0, ifNot = 0;
         int next = Attack.after(attack, who);
         if (i + 1 < order.overs) {
-            best.seek(order.sorts, next, i + 1, w);
+            best.seek(next, i + 1, w);
             ifOut = best.valueAt(0, w + 1);
             ifNot = best.valueAt(0, w);
         }
@@ -593,9 +593,9 @@ public final class ChangeBowler {
             return runs * THOUSAND + (THOUSAND - rain) * behind / THOUSAND;
         }
 
-        void sortInto(int[] to) {
+        void sortDown(int[] to) {
             int n = 0;
-            for (int s = 0; s < SORTS; s++) {
+            for (int s = SORTS - 1; s >= 0; s--) {
                 for (int i = 0; i < size; i++) {
                     if (sorts[i] == s && n < to.length) to[n++] = s;
                 }
@@ -608,16 +608,16 @@ public final class ChangeBowler {
             return v;
         }
 
-        /** The next order as digits; false: there is none. */
-        static boolean turnOn(int[] line, int size) {
-            int n = Math.min(size, line.length), i = n - 2;
-            while (i >= 0 && line[i] >= line[i + 1]) i--;
-            if (i < 0) return false;
-            int j = n - 1;
-            while (j > i && line[j] <= line[i]) j--;
+        /** The next order, as digits read from behind: the last place that changed; -1: there is none. */
+        static int turnOn(int[] line, int size) {
+            int n = Math.min(size, line.length), i = 1;
+            while (i < n && line[i] >= line[i - 1]) i++;
+            if (i >= n) return -1;
+            int j = 0;
+            while (j < i && line[j] <= line[i]) j++;
             swap(line, i, j);
-            for (int a = i + 1, z = n - 1; a < z; a++, z--) swap(line, a, z);
-            return true;
+            for (int a = 0, z = i - 1; a < z; a++, z--) swap(line, a, z);
+            return i;
         }
 
         private static void swap(int[] line, int a, int z) {
@@ -942,8 +942,8 @@ public final class ChangeBowler {
 
     /** THE BEST from a STATE: all that may follow as nodes, level by level, judged from the end back for every w at once. */
     private static final class Best {
-        /** Who may bowl has rested, so STEPS part no two STATES: 481 nodes at most stand within FAR overs. */
-        private static final int NODES = 500, NIL = NODES, WIDE = Order.MOST + 1;
+        /** Who may bowl has rested, so STEPS part no two STATES: 337 nodes at most stand within FAR overs. */
+        private static final int NODES = 350, NIL = NODES, WIDE = Order.MOST + 1;
         private static final int SLOT_BITS = 10, SLOTS = 1 << SLOT_BITS;
 
         private final Odds odds;
@@ -959,10 +959,14 @@ public final class ChangeBowler {
             this.order = order;
         }
 
-        /** Judges w and w + 1 at the STATE itself: the over ahead of it, which is forced, wants both. */
-        void seek(int[] line, int attack, int o, int w) {
+        void seek(int attack, int o, int w) {
+            seekFor(order.sorts, attack, o, w, order.size - 1);
+        }
+
+        /** Judges w and w + 1 at the STATE itself: a book's over ahead of it wants both. */
+        void seekFor(int[] line, int attack, int o, int w, int last) {
             grow(attack, o);
-            for (int i = nodes - 1; i >= 0; i--) judge(i, line, w);
+            for (int i = nodes - 1; i >= 0; i--) judge(i, line, w, last);
         }
 
         int valueAt(int node, int w) {
@@ -993,15 +997,11 @@ public final class ChangeBowler {
             exact = counts;
             nodes = 0;
             add(attack, 0);
-            for (int i = 0; i < nodes && i < NODES; i++) branch(i);
-        }
-
-        private void branch(int node) {
-            int attack = keys[node] & Attack.MASK, d = keys[node] >> Attack.BITS;
-            for (int b = 0; b < BOWLERS; b++) {
-                int to = -1;
-                if (Attack.mayBowl(attack, b)) to = add(Attack.after(attack, b), d + 1);
-                next[node * BOWLERS + b] = to;
+            for (int i = 0; i < nodes && i < NODES; i++) {
+                int from = keys[i] & Attack.MASK, d = keys[i] >> Attack.BITS;
+                for (int b = 0; b < BOWLERS; b++) {
+                    next[i * BOWLERS + b] = Attack.mayBowl(from, b) ? add(Attack.after(from, b), d + 1) : -1;
+                }
             }
         }
 
@@ -1035,13 +1035,13 @@ public final class ChangeBowler {
             return -1;
         }
 
-        /** Drops what nothing behind can tell: OVERS that cannot be bowled any more, STEPS of who will not bowl. */
+        /** Drops what nothing behind can tell: OVERS that cannot be bowled any more (the last over's OUT, too), STEPS of who will not bowl. */
         private int trimmed(int attack, int overs) {
             int to = attack;
             for (int b = 0; b < BOWLERS; b++) {
                 int left = Attack.left(attack, b);
                 int most = (Attack.last(attack) == b ? overs : overs + 1) / 2;
-                if (!exact && left > most) {
+                if ((!exact || overs <= 1) && left > most) {
                     left = most;
                     to = Attack.withLeft(to, b, left);
                 }
@@ -1050,25 +1050,27 @@ public final class ChangeBowler {
             return to;
         }
 
-        private void judge(int node, int[] line, int from) {
-            int attack = keys[node] & Attack.MASK, d = keys[node] >> Attack.BITS;
-            int last = Math.min(Math.min(order.size, line.length) - 1, from + 1 + d);
-            values[node * WIDE + order.size] = 0;
-            for (int w = Math.max(0, from); w <= last; w++) {
-                int least = 0, who = -1, sort = line[w];
-                for (int b = 0; b < BOWLERS; b++) {
-                    int to = next[node * BOWLERS + b];
-                    if (to < 0) continue;
-                    int steps = Attack.steps(attack, b), runs = odds.runsOf(b, sort, steps);
-                    int out = odds.outOf(b, sort, steps, Attack.left(attack, b), start + d, w);
-                    int mean = order.meanOf(runs, out, values[to * WIDE + w + 1], values[to * WIDE + w]);
-                    if (who < 0 || mean < least) {
-                        who = b;
-                        least = mean;
+        private void judge(int node, int[] line, int from, int last) {
+            int attack = keys[node] & Attack.MASK, d = keys[node] >> Attack.BITS, row = node * WIDE;
+            int first = Math.max(0, from), end = Math.min(Math.min(last, line.length - 1), from + 1 + d);
+            for (int w = first; w <= end; w++) {
+                values[row + w] = 0;
+                whoms[row + w] = -1;
+            }
+            values[row + order.size] = 0;
+            for (int b = 0; b < BOWLERS; b++) {
+                int to = next[node * BOWLERS + b] * WIDE;
+                if (to < 0) continue;
+                int steps = Attack.steps(attack, b), left = Attack.left(attack, b);
+                for (int w = first; w <= end; w++) {
+                    int runs = odds.runsOf(b, line[w], steps);
+                    int out = odds.outOf(b, line[w], steps, left, start + d, w);
+                    int mean = order.meanOf(runs, out, values[to + w + 1], values[to + w]);
+                    if (whoms[row + w] < 0 || mean < values[row + w]) {
+                        values[row + w] = mean;
+                        whoms[row + w] = b;
                     }
                 }
-                values[node * WIDE + w] = least;
-                whoms[node * WIDE + w] = who;
             }
         }
     }

@@ -135,5 +135,12 @@ public final class LanguageTest {
             }
         }
         CHECKS.holds("methods are short: " + longest, longest > 10 && longest <= 60);
+        boolean constructor = false;
+        for (String line : lines) {
+            if (line.contains("public ChangeBowler()")) constructor = true;
+            else if (line.equals("    }")) constructor = false;
+            boolean made = line.matches(".*\\bnew\\b.*"), kept = line.matches(" +(private )?final .*") && line.endsWith(";");
+            CHECKS.holds("made once, with the object: " + line.trim(), !made || kept || constructor);
+        }
     }
 }
