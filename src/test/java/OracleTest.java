@@ -104,7 +104,7 @@ public final class OracleTest {
         StringBuilder b = new StringBuilder();
         int n = upTo(12) == 0 ? upTo(10) : 1 + upTo(shortGames ? 4 : 6);
         for (int i = 0; i < n; i++) b.append(upTo(4));
-        if (upTo(4) > 0) b.append(':').append(upTo(6) == 0 ? upTo(130) : 1 + upTo(shortGames ? 6 : 9));
+        if (upTo(4) > 0) b.append(':').append(upTo(6) == 0 ? upTo(130) : 1 + upTo(shortGames ? 6 : 12));
         if (upTo(3) == 0) b.append('r').append(upTo(10) == 0 ? upTo(3000) : upTo(2) == 0 ? upTo(50) : upTo(1000));
         String s = spoilt(b.toString());
         feed(s);
