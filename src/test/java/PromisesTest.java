@@ -702,6 +702,20 @@ public final class PromisesTest {
         due("BAD ahead of BIG", x.game(2, 0), BAD);
         due("nobody", nobody().game(0, 7), 0);
         for (int seed : new int[] {LEAST, MOST, -1}) due("seed " + seed, two26(seed), 1);
+        due("rain is drawn for without R, too: not out", secondOver(0), 11);
+        due("out", secondOver(1), 8);
+    }
+
+    /** The second over's OUT is that much above its lot, the third that is drawn. */
+    private static int secondOver(int above) {
+        int z = 0;
+        for (int i = 0; i < 3; i++) z = z * 1103515245 + 12345;
+        ChangeBowler x = two();
+        x.rule(0, 0, 0);
+        x.edge(0, 0, 0);
+        x.edge(10, 0, 0);
+        text(x, 1, "b*" + ((z >>> 8) % 1000 + above));
+        return x.game(0, 0);
     }
 
     private static int two26(int seed) {
