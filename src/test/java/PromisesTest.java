@@ -20,18 +20,12 @@ public final class PromisesTest {
         C.same(what, got, want);
     }
 
-    private static void feed(ChangeBowler x, String s) {
-        for (int i = 0; i < s.length(); i++) x.feed(1, s.charAt(i));
-    }
-
     private static int order(ChangeBowler x, String s) {
-        feed(x, s);
-        return x.order();
+        return Hand.order(x, s);
     }
 
     private static int text(ChangeBowler x, int use, String s) {
-        feed(x, s);
-        return x.text(use);
+        return Hand.text(x, use, s);
     }
 
     /** Two who bowl, 3 and 5 runs an over, EDGE 100; one batsman of SORT 0 and three overs. */
@@ -165,7 +159,7 @@ public final class PromisesTest {
 
     static void promise8() {
         ChangeBowler x = two();
-        feed(x, "o");
+        x.feed(1, 'o');
         for (int use : new int[] {-1, 2, LEAST, MOST}) due("text(" + use + ")", x.text(use), BAD);
         due("THE TAPE stays", x.count(2), 1);
         due("text", x.text(1), 1);
