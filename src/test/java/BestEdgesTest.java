@@ -151,6 +151,32 @@ public final class BestEdgesTest extends Edges {
         due("2000 and 500 * 2000 / 1000", x.best(0), 3000);
     }
 
+    /** Who bowled last, OVERS left and how many are to come are alike in both; the over is not. */
+    @Says("THE BEST: from a STATE the least MEAN over all ways")
+    static void theBestOfAnOver() {
+        ChangeBowler x = ruled(Hand.attack("0:3", 2, 3));
+        Hand.edges(x, 0);
+        text(x, 1, "o=1?1000");
+        booked(x, "0");
+        due("3, and all are out", x.best(0), 3000);
+        order(x, "0:4");
+        booked(x, "10");
+        x.edge(10, 2, 7);
+        due("3 and 2", x.best(0), 5000);
+        due("WHOM", x.best(1), 1);
+        due("KIND 2", x.puts(2), 1);
+    }
+
+    @Says("MEAN of a RULE from a STATE, in thousandths of a run: ENDED: 0.")
+    static void endedBehindALongerOrder() {
+        ChangeBowler x = ruled(Hand.attack("00:2", 2, 2));
+        Hand.edges(x, 500);
+        due("two are in", x.best(0), 4000);
+        order(x, "0:2");
+        due("one is in", x.best(0), 3000);
+        for (int k = 0; k <= 6; k++) due("KIND " + k, x.mean(k), 3000);
+    }
+
     @Says({"(T less o above 8: BIG, ENDED or not, here and for KIND 2.)",
         "THE BEST from the STATE behind THE BOOK: the MEAN (what 0), WHOM (1). BAD, BIG; NOT (what 1): it is ENDED."})
     static void tooFarToSee() {
@@ -352,6 +378,20 @@ public final class BestEdgesTest extends Edges {
             due("T 9", alike("0:9").theirs(what), BIG);
         }
         due("BAD is named first", alike("012301:9").theirs(2), BAD);
+    }
+
+    @Says("of all orders of THE ORDER (at most 5 long, else BIG)")
+    static void theirOrderBehindALongerOne() {
+        ChangeBowler x = alike("33213:2");
+        due("five", x.theirs(0), 12333);
+        order(x, "20:2");
+        due("two", x.theirs(0), 2);
+        order(x, "1:2");
+        due("one", x.theirs(0), 1);
+        order(x, "333333:2");
+        due("six", x.theirs(0), BIG);
+        order(x, "00:2");
+        due("two", x.theirs(0), 0);
     }
 
     // ---- learn

@@ -202,6 +202,25 @@ public final class BookEdgesTest extends Edges {
         due("2 instead of 2", x.cost(1), 0);
     }
 
+    @Says("A STATE: how many are out (w), overs done (o), who bowled last (b; none), STEPS of tiredness (0 .. 3) and overs bowled of each BOWLER.")
+    static void costByOversLeft() {
+        ChangeBowler x = Hand.attack("0:4", 2, 3, 7);
+        Hand.edges(x, 0);
+        text(x, 1, "l*100");
+        booked(x, "0101");
+        // third: 5 are left of 6, so 2 and 500 * 3; there is no better
+        for (int i = 2; i <= 3; i++) due("cost(" + i + ")", x.cost(i), 0);
+        text(x, 1, "l=5?500");
+        x.close();
+        booked(x, "0201");
+        due("7, 2 and 500 * 3 instead of 3, 2 and 500 * 3", x.cost(1), 7000 + (2000 + 1500) - (3000 + 2000 + 1500));
+        x.close();
+        booked(x, "0102");
+        text(x, 1, "l=-1?500");
+        x.edge(0, 2, 0);
+        due("one less than none are left: 2 and 500 * 3 instead of 7 and 3", x.cost(2), 2000 + 1500 - (7000 + 3000));
+    }
+
     // ---- lost
 
     @Says({"LOST: the over that cost most (of like ones the first), and that; its SUM.",
@@ -230,6 +249,24 @@ public final class BookEdgesTest extends Edges {
         booked(x, "0101");
         for (int what = 0; what <= 2; what++) due("BIG", x.lost(what), BIG);
         due("BAD is named first", x.lost(3), BAD);
+    }
+
+    @Says("LOST: the over that cost most (of like ones the first), and that; its SUM.")
+    static void lostWhereAllCostLessThanNothing() {
+        ChangeBowler x = Hand.attack("0:2", 1, 2, 9, 9);
+        Hand.edges(x, 0);
+        booked(x, "01");
+        x.edge(0, 2, 0);
+        x.edge(10, 2, 0);
+        due("1 and 9 instead of 9 and 9", x.cost(0), -8000);
+        due("2 instead of 9", x.cost(1), -7000);
+        due("the over", x.lost(0), 1);
+        due("what it cost", x.lost(1), -7000);
+        due("SUM", x.lost(2), -15000);
+        x.edge(10, 1, -1);
+        due("of like ones the first", x.lost(0), 0);
+        due("what both cost", x.lost(1), -8000);
+        due("SUM", x.lost(2), -16000);
     }
 
     // ---- games
@@ -484,5 +521,27 @@ public final class BookEdgesTest extends Edges {
         ChangeBowler y = new ChangeBowler();
         due("a new object: undo", y.undo(), STATE);
         due("a new object: redo", y.redo(), STATE);
+    }
+
+    /** The i-th of 64 numbers, each of a place of its own, becomes v. */
+    private static int told(ChangeBowler x, int i, int v) {
+        int place = i / 4 % 4 * 10 + i % 4;
+        return i < 32 ? x.edge(place, i / 16, v) : x.field(place, i / 16 - 2, v);
+    }
+
+    @Says("40 at most are kept.")
+    static void fortyOfManyPlaces() {
+        for (int n : new int[] {39, 40, 41, 50, 64}) {
+            ChangeBowler x = Hand.attack("0:3", 2, 2, 2, 2);
+            for (int i = 0; i < n; i++) due("what it was", told(x, i, 5), i < 16 ? 100 : 0);
+            int kept = Math.min(40, n);
+            for (int i = kept - 1; i >= 0; i--) due("undo", x.undo(), i);
+            due("no more", x.undo(), STATE);
+            for (int i = 0; i < kept; i++) due("redo", x.redo(), kept - 1 - i);
+            due("no more", x.redo(), STATE);
+            while (x.count(4) > 0) x.undo();
+            // telling the same is none, else it would tell what it is not
+            for (int i = 0; i < n; i++) due("number " + i + " of " + n, told(x, i, 5), i < n - kept ? 5 : i < 16 ? 100 : 0);
+        }
     }
 }

@@ -4,6 +4,22 @@ public final class BowlersEdgesTest extends Edges {
         runAll(BowlersEdgesTest.class);
     }
 
+    /** As many TEXTS and questions as an object is good for, each answered by the TEXT of its own time. */
+    @Says("An object is used for at most 512 calls after it has been made")
+    static void allCalls() {
+        ChangeBowler x = new ChangeBowler();
+        int calls = 1;
+        due("the first call", x.bowler(8, 0, 0), 0);
+        for (int n = 0; n < 170; n++) {
+            due("feed " + n, x.feed(3, '0' + n / 100 | '0' + n / 10 % 10 << 8 | '0' + n % 10 << 16), 3);
+            due("text " + n, x.text(1), 1);
+            due("over " + n, x.over(0, 0, 0), 100 + n);
+            calls += 3;
+        }
+        due("calls", ++calls, 512);
+        due("the last call", x.over(0, 0, 0), 269);
+    }
+
     // ---- bowlers
 
     @Says({"No bowlers, one batsman.", "It is 0 : 8 at first."})
@@ -606,8 +622,7 @@ public final class BowlersEdgesTest extends Edges {
         ChangeBowler x = two();
         text(x, 1, "o*10+w");
         for (int o = 0; o <= 12; o++) {
-            due("w 0", x.over(0, 10 * o, 0), 100 + 10 * o);
-            due("w 8", x.over(0, 10 * o + 8, 0), 108 + 10 * o);
+            for (int w = 0; w <= 8; w++) due("w " + w, x.over(0, 10 * o + w, 0), 100 + 10 * o + w);
             due("w 9", x.over(0, 10 * o + 9, 0), BAD);
             due("RUNS, w 9", x.over(0, 10 * o + 9, 1), BAD);
         }

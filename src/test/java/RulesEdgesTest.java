@@ -135,6 +135,16 @@ public final class RulesEdgesTest extends Edges {
         due("nobody may", x.puts(0), NOT);
     }
 
+    @Says("else (without a ROW, too) the least")
+    static void withoutARow() {
+        for (int last = 0; last < 4; last++) {
+            ChangeBowler x = Hand.attack("0", 4, 4, 4, 4);
+            for (int kind = 0; kind <= 6; kind++) x.rule(kind, 0, 12);
+            x.book(last, 0);
+            for (int kind = 0; kind <= 6; kind++) due("KIND " + kind + " behind " + last, x.puts(kind), last == 0 ? 1 : 0);
+        }
+    }
+
     @Says("KEEP: as TURN, but the ROW's first one not ahead of over k, unless no other may")
     static void keep() {
         for (int k = 0; k <= 12; k++) {
