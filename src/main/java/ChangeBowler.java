@@ -942,7 +942,7 @@ public final class ChangeBowler {
 
     /** THE BEST from a STATE: all that may follow as nodes, level by level, judged from the end back for every w at once. */
     private static final class Best {
-        /** Who may bowl has rested, so STEPS part no two STATES: 337 nodes at most stand within FAR overs. */
+        /** Who may bowl has rested, so STEPS part no two STATES: 333 nodes at most stand within FAR overs. */
         private static final int NODES = 350, NIL = NODES, WIDE = Order.MOST + 1;
         private static final int SLOT_BITS = 10, SLOTS = 1 << SLOT_BITS;
 

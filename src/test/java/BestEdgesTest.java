@@ -49,6 +49,27 @@ public final class BestEdgesTest extends Edges {
         due("the next one comes in", x.mean(0), 1000 + (500 * 668 + 500 * 1000) / 1000);
     }
 
+    @Says("Behind it: o is one more; w, if that one got out;")
+    static void anOverIsOneOver() {
+        // three overs: whatever comes of them, not all three are out ahead of the last
+        ChangeBowler x = ruled(Hand.attack("000:3", 2, 3));
+        Hand.edges(x, 500);
+        for (int k = 0; k <= 6; k++) {
+            due("2, 3, 2, KIND " + k, x.mean(k), 7000);
+            due("not less than 7, KIND " + k, x.likely(k, 7), 0);
+            due("less than 8, KIND " + k, x.likely(k, 8), 1000000);
+        }
+        due("THE BEST", x.best(0), 7000);
+    }
+
+    @Says("all being put on so (section 3)")
+    static void meanOfKindBestAskedFirst() {
+        ChangeBowler x = Hand.attack("0:3", 3, 2);
+        x.rule(2, 0, 0);
+        Hand.edges(x, 0);
+        due("2, 3, 2, and nothing was asked ahead", x.mean(0), 7000);
+    }
+
     @Says("MEAN of a RULE from the beginning. BAD; BIG: T is above 8 (of any KIND).")
     static void meanFromTheBeginning() {
         ChangeBowler x = ruled(Hand.attack("0:8", 2, 2));
@@ -378,6 +399,17 @@ public final class BestEdgesTest extends Edges {
             due("T 9", alike("0:9").theirs(what), BIG);
         }
         due("BAD is named first", alike("012301:9").theirs(2), BAD);
+    }
+
+    @Says("for which THE BEST is greatest")
+    static void theirOrderIsOutInTheEnd() {
+        ChangeBowler x = alike("0:2");
+        Hand.edges(x, 500);
+        due("2 and 500 * 2: none is in behind the only one", x.theirs(1), 3000);
+        order(x, "10:3");
+        // 2, 2, and a third over unless both are out
+        due("750 of the last 2", x.theirs(1), 5500);
+        due("alike: the first as digits", x.theirs(0), 1);
     }
 
     @Says("of all orders of THE ORDER (at most 5 long, else BIG)")

@@ -81,6 +81,16 @@ public final class BookEdgesTest extends Edges {
         }
     }
 
+    @Says("over by over 10 times whether one got out (0, 1), and the BOWLER")
+    static void bytesOfTheOnlyBowler() {
+        for (int v : new int[] {0, 10}) {
+            ChangeBowler x = Hand.attack("00:12", 2);
+            x.row(5, 0, 1);
+            x.put(5, 0, v);
+            due("byte " + v, x.books(5, 0), 1);
+        }
+    }
+
     @Says("it ends where the row is missing, ends (a place below 0, too: the row lacks there), or an over may not be: those ahead are THE BOOK then.")
     static void whereABookEnds() {
         ChangeBowler x = shelved("00:12", 0, 1, 0, 1, 10, 11, 0);
@@ -182,6 +192,29 @@ public final class BookEdgesTest extends Edges {
         booked(x, "ca");
         due("what came of it does not count", x.cost(0), 5000);
         due("all were out then", x.cost(1), VOID);
+    }
+
+    @Says("(and the best behind it)")
+    static void costByWhoIsInThen() {
+        ChangeBowler x = Hand.attack("01:2", 2, 3);
+        Hand.edges(x, 0);
+        x.edge(0, 0, 400);
+        x.edge(1, 1, 2);
+        x.edge(11, 1, 5);
+        // 2, then 8 if the first one got out and 3 if not, or 3 and 2
+        for (String over : new String[] {"0", "a"}) {
+            booked(x, over);
+            due("2 and (400 * 8 + 600 * 3) instead of 3 and 2", x.cost(0), 2000 + 3200 + 1800 - 5000);
+            x.close();
+        }
+        order(x, "0:2");
+        booked(x, "1");
+        due("3 and 2 instead of 2 and 600 * 3", x.cost(0), 5000 - 3800);
+        order(x, "01:1");
+        x.edge(0, 0, 500);
+        text(x, 1, "500");
+        booked(x, "0");
+        due("nothing is behind the last over, whoever gets out", x.cost(0), 0);
     }
 
     @Says("(also where it may not bowl any more; ENDED: 0)")
